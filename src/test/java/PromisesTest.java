@@ -184,6 +184,16 @@ public final class PromisesTest {
         return x;
     }
 
+    /** Catalogues 0 and 1 have an entry for each of ten words, the one upward, the other one downward. */
+    private static CabinetBooks tenWords() {
+        CabinetBooks x = new CabinetBooks();
+        for (int n = 0; n < 10; n++) {
+            x.entry(0, 1 << n, 10, 0, 5);
+            x.entry(1, 1 << (9 - n), 10, 0, 5);
+        }
+        return x;
+    }
+
     private static void bar() {
         promise = 7;
         CabinetBooks x = alike(10, 10, 1);
@@ -376,9 +386,12 @@ public final class PromisesTest {
         due("no catalogue", x.sure(0, 0, 4), -1);
         due("no catalogue", x.sure(-1, 0, 1), -1);
         due("to an empty one", x.sure(0, 0, 2), 0);
-        CabinetBooks many = alike(10, 10);
-        many.entry(1, 1, 10, 0, 5);
-        due("more ways than are counted", many.sure(0, 9, 1), 0);
+        due("more ways than are counted", alike(10, 10).sure(0, 9, 1), 0);
+        CabinetBooks full = tenWords();
+        for (int i = 0; i < 10; i++) {
+            due("each to its own", full.joined(0, i, 1), 9 - i);
+            due("each is sure", full.sure(0, i, 1), 1);
+        }
     }
 
     private static void chain() {
@@ -452,6 +465,13 @@ public final class PromisesTest {
         due("no catalogue", x.copied(4, 1, 0), -1);
         due("no catalogue", x.copied(0, -1, 0), -1);
         due("an empty earlier one", x.copied(2, 1, 0), -9);
+        CabinetBooks full = tenWords();
+        full.year(1, 1501);
+        for (int k = 0; k < 10; k++) {
+            due("each is joined to its own", full.copied(0, 1, k), -9);
+        }
+        full.bar(0, 9, 1, 0);
+        due("the last one of ten", full.copied(0, 1, 0), 9);
     }
 
     private static void sight() {
