@@ -17,6 +17,9 @@ public final class CatalogueSentencesTest {
         greatestLikeness();
         eachToOneAtMost();
         bestIsOfTheGreatestSum();
+        joinedByOne();
+        joinedAnew();
+        joinedAnewBehindTwo();
         noneIsBehindAll();
         bestsAtMost();
         sureInAll();
@@ -275,6 +278,60 @@ public final class CatalogueSentencesTest {
         Books.alike(10).tell("set(0, 0)").due("join(0, 3)", 170).due("join(2, 1)", 170);
     }
 
+    /** The least likeness that isn't barred is 1: it is joined, too, and counts. */
+    private static void joinedByOne() {
+        Sentence.ofTerms("7 more if the ROOM is the same; 1 at least");
+        Run run = pair("1, 10, 0, 5", "1023, 10, 1, 5").due("like(0, 0, 1, 0)", 1).due("join(0, 1)", 1);
+        run.due("joined(0, 0, 1)", 0).due("joined(1, 0, 0)", 0).due("bests(0, 1)", 1).due("sure(0, 0, 1)", 1);
+        run.due("chain(0, 0, 2, 2)", 99);
+        run.tell("entry(0, 1, 10, 0, 5)", "entry(1, 1023, 10, 1, 5)").due("join(0, 1)", 2).due("bests(0, 1)", 2);
+        run.due("joined(0, 1, 1)", 1).tell("entry(0, 1, 10, 1, 5)").due("join(0, 1)", 2).due("bests(0, 1)", 6);
+    }
+
+    /** What was asked ahead of a change is no answer behind it. */
+    private static void joinedAnew() {
+        Sentence.ofPromise("join", "The sum of the BEST JOINING of a and b.");
+        Run run = pair("1, 10, 0, 50", "1, 16, 0, 40").due("join(0, 1)", 0).due("join(1, 0)", 0);
+        run.tell("set(0, 6)").due("join(0, 1)", 0).tell("year(1, 1505)").due("join(0, 1)", 11).due("join(1, 0)", 11);
+        run.tell("set(1, 0)").due("join(0, 1)", 0).due("join(1, 0)", 0).tell("set(1, 1)").due("join(0, 1)", 11);
+        run.tell("set(0, 5)").due("join(0, 1)", 0).tell("set(0, 6)").due("joined(0, 0, 1)", 0).due("sure(0, 0, 1)", 1);
+        run.tell("year(1, 1504)").due("joined(0, 0, 1)", -9).due("sure(0, 0, 1)", 0).tell("year(1, 1505)");
+        run.due("join(0, 1)", 11).tell("entry(0, 1, 16, 0, 40)").due("join(0, 1)", 17).due("joined(0, 1, 1)", 0);
+        run.tell("bar(0, 1, 1, 0)").due("join(0, 1)", 11).due("joined(0, 0, 1)", 0).due("joined(0, 1, 1)", -9);
+        run.tell("entry(1, 2, 16, 0, 40)").due("joined(0, 1, 1)", -9).tell("means(1, 0)").due("joined(0, 1, 1)", 1);
+        run.due("join(1, 0)", 28).due("chain(0, 1, 2, 0)", 1).due("bests(0, 1)", 1);
+    }
+
+    /** Two changes between two questions, of which the one has nothing to do with what is asked. */
+    private static void joinedAnewBehindTwo() {
+        Sentence.ofPromise("joined", "To which ENTRY of b ENTRY i of a is joined in the BEST; -9 none.");
+        String[] idle = {"means(19, 18)", "year(2, 1600)", "entry(3, 1, 1, 0, 0)", "set(0, 6)", "set(1, 2)", "bar(0, 1, 1, 1)"};
+        String[] parting = {"year(0, 1501)", "set(0, 4)", "set(1, 0)", "bar(0, 0, 1, 0)"};
+        for (String one : idle) {
+            for (String other : parting) {
+                apart(Books.empty(), one, other);
+                apart(Books.empty(), other, one);
+            }
+        }
+        for (String one : idle) {
+            Run means = pair("1, 10, 0, 5", "2, 10, 0, 5").tell("entry(0, 4, 10, 0, 5)", "entry(1, 8, 10, 0, 5)");
+            means.due("join(0, 1)", 0).tell("means(1, 0)", one).due("join(0, 1)", 17).due("joined(0, 0, 1)", 0);
+            Run entry = Books.empty().tellTimes(2, "entry(0, 1, 10, 0, 5)").tellTimes(2, "entry(1, 2, 10, 0, 5)");
+            entry.due("join(0, 1)", 0).tell("entry(1, 1, 10, 0, 5)", one).due("join(0, 1)", 17).due("joined(0, 0, 1)", 2);
+        }
+    }
+
+    /** Joined at first, and no more when both have been told, in whatever order. */
+    private static void apart(Run run, String first, String second) {
+        run.tell("entry(0, 1, 10, 0, 10)", "entry(1, 1, 15, 0, 4)", "entry(0, 2, 90, 0, 5)", "entry(1, 4, 90, 0, 5)");
+        run.tell("year(1, 1501)").due("join(0, 1)", 12).due("joined(0, 0, 1)", 0);
+        run.tell(first, second);
+        // The last spare told counts, so a wider one behind a narrower one joins them again.
+        boolean wide = first.equals("set(0, 4)") && second.equals("set(0, 6)");
+        boolean fast = first.equals("set(1, 0)") && second.equals("set(1, 2)");
+        run.due("joined(0, 0, 1)", wide || fast ? 0 : -9).due("join(0, 1)", wide || fast ? 12 : 0);
+    }
+
     private static void noneIsBehindAll() {
         Sentence.ofTerms("told as the one in which the first ENTRY of a is joined to the least of b "
                 + "(none is behind all), then the second one, and so on");
@@ -409,6 +466,9 @@ public final class CatalogueSentencesTest {
         Run last = Books.empty().tellTimes(9, "entry(0, 2, 10, 0, 5)").tell("entry(0, 1, 10, 0, 5)");
         last.tell("entry(1, 1, 10, 0, 5)", "year(1, 1501)", "bar(0, 9, 1, 0)").due("copied(0, 1, 0)", 9);
         Books.empty().tell("entry(1, 1, 10, 0, 5)", "year(1, 1501)").due("copied(0, 1, 0)", -9);
+        // None of ten, which are as many as there may be.
+        Run none = Books.empty().tellTimes(10, "entry(0, 2, 10, 0, 5)").tellTimes(10, "entry(1, 1, 10, 0, 5)");
+        none.tell("year(1, 1501)").due("copied(0, 1, 0)", -9).due("copied(0, 1, 9)", -9);
     }
 
     private static void copiedIsLater() {

@@ -163,6 +163,7 @@ public final class RecordSentencesTest {
         Books.empty().tell("sight(0, 1, 5, 0)", "sight(0, 2, 5, 0)").due("quarrels(0, 0)", 1);
         Books.empty().tell("sight(0, 1, 5, 0)", "sight(0, 2, 6, 0)", "sight(0, 3, 4, 0)").due("quarrels(0, 0)", 0);
         Books.empty().tell("sight(0, 1, 5, 0)", "sight(1, 2, 5, 0)").due("quarrels(0, 0)", 0).due("quarrels(1, 0)", 0);
+        Books.empty().tell("sight(0, 3, 0, 0)").due("quarrels(0, 0)", 0).due("quarrels(0, 80000)", 0);
         Books.empty().tell("sight(0, 0, 0, 0)", "sight(0, 7, 0, 0)").due("quarrels(0, 0)", 1);
         Books.empty().tell("sight(0, 7, 80000, 0)", "sight(0, 0, 80000, 0)").due("quarrels(0, 0)", 1);
     }
@@ -282,6 +283,9 @@ public final class RecordSentencesTest {
         }
         Books.empty().tell("move(0, 0, 0, 2, 0)").due("holds(0, 0, 0, 1)", -9).due("holds(0, 0, 0, 0)", 0);
         Books.empty().tell("move(0, 0, 5, 1, 0)").due("holds(0, 4, 0, 1)", -9).due("holds(0, 5, 0, 1)", 0);
+        // What was asked of one thing is no answer for another one.
+        Books.empty().tell("move(0, 3, 5, 0, 0)").due("holds(0, 5, 0, 1)", 3).due("holds(1, 5, 0, 1)", -9)
+                .due("holds(0, 5, 0, 0)", 3).due("holds(1, 5, 0, 0)", -9).due("holds(0, 4, 0, 1)", -9);
         // By days, then by numbers, here too.
         Books.empty().tell("move(0, 2, 9, 0, 0)", "move(0, 1, 5, 0, 0)").due("holds(0, 9, 0, 1)", 2);
         Books.empty().tell("move(0, 2, 5, 2, 0)", "move(0, 1, 5, 0, 0)").due("holds(0, 5, 0, 1)", 1);
@@ -335,6 +339,17 @@ public final class RecordSentencesTest {
             most.tell("move(0, 3, 5, 0, " + (10 + 2 * n) + ")", "withdraw(false, " + n + ", " + (12 + 2 * n) + ")");
         }
         most.due("since(0, 5, 129)", 10).due("since(0, 5, 130)", 130).due("since(0, 5, 9)", 0);
+        // Each goes the day behind the next one's coming, so all these days differ and one of them always counts.
+        Run days = Books.empty();
+        for (int n = 0; n < 60; n++) {
+            days.tell("move(0, 3, 5, 0, " + (10 + 2 * n) + ")", "withdraw(false, " + n + ", " + (13 + 2 * n) + ")");
+        }
+        days.due("since(0, 5, 130)", 10).due("since(0, 5, 131)", 131).due("since(0, 5, 80000)", 131);
+        // Three days of which each changes something: it was another one on the first of them only.
+        Run next = Books.empty().tell("move(0, 1, 5, 0, 10)", "move(0, 2, 6, 0, 20)", "withdraw(false, 1, 21)",
+                "move(0, 1, 5, 0, 22)");
+        next.due("since(0, 6, 19)", 10).due("since(0, 6, 20)", 20).due("since(0, 6, 21)", 21).due("since(0, 6, 22)", 21);
+        next.due("since(0, 6, 30)", 21).due("since(0, 5, 30)", 10);
         Run gaps = Books.empty();
         for (int n = 0; n < 60; n++) {
             gaps.tell("move(1, 3, 9, 0, " + (10 + 2 * n) + ")", "withdraw(false, " + n + ", " + (11 + 2 * n) + ")");

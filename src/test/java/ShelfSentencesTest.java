@@ -81,6 +81,15 @@ public final class ShelfSentencesTest {
     private static void leftOf() {
         Sentence.ofTerms("THING x stands left of THING y (SORT 0)");
         Run run = Books.empty().tell("visitor(0, 11, 0, 1)").due("row(2049, 0)", 11).due("row(2049, 1)", 0);
+        Run three = Books.empty().tell("visitor(0, 0, 2, 5)", "visitor(0, 2, 1, 3)").due("shelf(7)", 8);
+        three.due("row(7, 0)", 0).due("row(7, 1)", 2).due("row(7, 2)", 1);
+        Run down = Books.empty();
+        for (int thing = 11; thing > 4; thing--) {
+            down.tell("visitor(0, " + thing + ", " + (thing - 1) + ", 1)");
+        }
+        for (int k = 0; k < 8; k++) {
+            down.due("row(4080, " + k + ")", 11 - k);
+        }
         // Left of it, not just beside it.
         run.tell("visitor(2, 11, 0, 9)", "visitor(3, 0, 0, 9)").due("shelf(2303)", -6).due("shelf(2175)", 19);
         run.due("row(2175, 0)", 11).due("row(2175, 7)", 0).due("quarrel(2175)", 0);
@@ -94,9 +103,28 @@ public final class ShelfSentencesTest {
         run.due("shelf(7)", 5).due("row(7, 0)", 0).due("row(7, 1)", 2).due("row(7, 2)", 1);
         run.tell("visitor(2, 0, 0, 9)", "visitor(3, 2, 0, 9)").due("shelf(7)", 18).due("quarrel(7)", 5).due("row(7, 1)", 1);
         run.due("shelf(5)", 23).due("quarrel(5)", 0);
+        // Told from either of the two, and at any place of a shelf.
+        for (int x = 4; x < 12; x++) {
+            for (int y = 4; y < 12; y++) {
+                if (x != y) {
+                    besideAmongEight(x, y);
+                }
+            }
+        }
         // On either side.
         Run left = Books.empty().tell("visitor(1, 0, 2, 5)", "visitor(0, 2, 0, 5)").due("shelf(7)", 10);
         left.due("row(7, 0)", 1).due("row(7, 1)", 2).due("row(7, 2)", 0);
+    }
+
+    /** Of eight, the two that are beside each other come together where the lesser one would stand. */
+    private static void besideAmongEight(int x, int y) {
+        Run run = Books.empty().tell("visitor(1, " + x + ", " + y + ", 5)").due("shelf(4080)", 5).due("quarrel(4080)", 0);
+        int low = Math.min(x, y);
+        int high = Math.max(x, y);
+        for (int k = 0; k < 8; k++) {
+            int want = 4 + k <= low || 4 + k > high ? 4 + k : 4 + k == low + 1 ? high : 3 + k;
+            run.due("row(4080, " + k + ")", want);
+        }
     }
 
     private static void ends() {
