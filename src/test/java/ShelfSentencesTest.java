@@ -13,6 +13,7 @@ public final class ShelfSentencesTest {
         quarrelOfTheRest();
         places();
         mostTrust();
+        toldAgain();
         kindsAtFirst();
         clashesInTwos();
         twoOfItsParts();
@@ -180,6 +181,29 @@ public final class ShelfSentencesTest {
         // A word told behind a row that was asked for changes it.
         Run asked = Books.empty().due("shelf(3)", 0).due("row(3, 0)", 0).tell("visitor(0, 1, 0, 1)").due("shelf(3)", 1);
         asked.due("row(3, 0)", 1);
+    }
+
+    /** A word that is told again is one more: each of them counts, at either end and on either side. */
+    private static void toldAgain() {
+        Sentence.ofTerms("of all rows of the SHELF's THINGS that with the greatest sum of TRUST of WORDS that hold");
+        for (int sort = 0; sort < 4; sort++) {
+            for (int x = 0; x < 2; x++) {
+                String word = "visitor(" + sort + ", " + x + ", " + (1 - x) + ", ";
+                Run run = Books.empty().tell(word + "4)", word + "5)").due("shelf(3)", 9).due("quarrel(3)", 0);
+                run.tell(word + "9)").due("shelf(3)", 18).due("quarrel(3)", 0).due("count(6)", 3);
+                toldAgainInRow(sort, x, 0);
+                toldAgainInRow(sort, x, 1);
+            }
+        }
+    }
+
+    /** Stronger words tell which of the two stands left: then the words told again hold all, or none of them does. */
+    private static void toldAgainInRow(int sort, int x, int left) {
+        String word = "visitor(" + sort + ", " + x + ", " + (1 - x) + ", ";
+        Run run = Books.empty().tell(word + "2)", word + "3)");
+        run.tellTimes(2, "visitor(0, " + left + ", " + (1 - left) + ", 9)");
+        boolean holds = sort == 1 || (sort == 3 ? left != x : left == x);
+        run.due("row(3, 0)", left).due("shelf(3)", holds ? 23 : 18).due("quarrel(3)", holds ? 0 : 5);
     }
 
     private static void kindsAtFirst() {
