@@ -43,19 +43,19 @@ public final class CabinetBooks {
     private static final int KINDS = 6;
 
     private final Catalogues catalogues;
-    private final Joiner joiner;
     private final Joining[] joinings;
     private final Records sights;
     private final Records moves;
     private final Holding holding;
     private final Sayings sayings;
-    private final Shelf builder;
     private final Beasts beasts;
     private final int[] refusals;
+    // Made by the first call that needs them, once: their rows are most of what an object holds.
+    private Joiner joiner = null;
+    private Shelf builder = null;
 
     public CabinetBooks() {
         catalogues = new Catalogues();
-        joiner = new Joiner();
         joinings = new Joining[CATALOGUES * CATALOGUES];
         for (int pair = 0; pair < joinings.length; pair++) {
             joinings[pair] = new Joining();
@@ -64,7 +64,6 @@ public final class CabinetBooks {
         moves = new Records();
         holding = new Holding();
         sayings = new Sayings();
-        builder = new Shelf();
         beasts = new Beasts();
         refusals = new int[REFUSAL_NUMBERS + 1];
     }
@@ -327,8 +326,7 @@ public final class CabinetBooks {
         if (bad != 0) {
             return refuse(bad);
         }
-        builder.rebuild(set, sayings);
-        return builder.sum;
+        return bestRow(set).sum;
     }
 
     public int row(int set, int k) {
@@ -336,8 +334,8 @@ public final class CabinetBooks {
         if (bad != 0) {
             return refuse(bad);
         }
-        builder.rebuild(set, sayings);
-        return k < 0 || k >= builder.size ? NONE : builder.told[k];
+        Shelf best = bestRow(set);
+        return k < 0 || k >= best.size ? NONE : best.told[k];
     }
 
     public int quarrel(int set) {
@@ -345,8 +343,8 @@ public final class CabinetBooks {
         if (bad != 0) {
             return refuse(bad);
         }
-        builder.rebuild(set, sayings);
-        return builder.total - builder.sum;
+        Shelf best = bestRow(set);
+        return best.total - best.sum;
     }
 
     public int part(int p, int kind) {
@@ -503,10 +501,21 @@ public final class CabinetBooks {
     private Joining bestJoining(int a, int b) {
         Joining best = joinings[a * CATALOGUES + b];
         if (best.version != catalogues.version) {
+            if (joiner == null) {
+                joiner = new Joiner();
+            }
             joiner.solve(catalogues, a, b, best);
             best.version = catalogues.version;
         }
         return best;
+    }
+
+    private Shelf bestRow(int set) {
+        if (builder == null) {
+            builder = new Shelf();
+        }
+        builder.rebuild(set, sayings);
+        return builder;
     }
 
     /** The book of tongues and the catalogues; an entry's place here is its catalogue times ten and its number. */
